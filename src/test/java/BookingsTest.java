@@ -99,6 +99,10 @@ public final class BookingsTest {
     due.is("two days are as bad", x.ofKind(0, 6), 23);
     x.book(0, 62, 1);
     due.is("one is worse", x.ofKind(0, 6), 62);
+    x.book(1, 0, 1);
+    due.is("day 0", x.ofKind(1, 6), 0);
+    x.book(1, 40, 20);
+    due.is("day 0, and as bad later", x.ofKind(1, 6), 0);
   }
 
   private static void seatsByFrom() {

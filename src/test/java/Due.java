@@ -36,8 +36,16 @@ final class Due {
     try {
       return "nothing but " + c.answer();
     } catch (RuntimeException e) {
-      return e.getClass().getSimpleName();
+      return e.getClass().getSimpleName() + (isThrownByHand(e) ? "" : " of the machine");
     }
+  }
+
+  /** What the machine or a list throws may bear the right name, but the class is to throw it itself. */
+  private static boolean isThrownByHand(RuntimeException e) {
+    StackTraceElement[] trace = e.getStackTrace();
+    return trace.length > 0
+        && (trace[0].getClassName().startsWith("Undermost")
+            || trace[0].getClassName().startsWith("Plain"));
   }
 
   /** Ends the program: with 1 if an answer was wrong, or if nothing was checked. */

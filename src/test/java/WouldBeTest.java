@@ -19,6 +19,7 @@ public final class WouldBeTest {
     fitsWrong();
     soundInEachState();
     digestsAreDue();
+    digestAsksJustThese();
     due.end();
   }
 
@@ -53,6 +54,7 @@ public final class WouldBeTest {
     due.is("5, 0, 0 by UNDER, 1", x.spread(1, true, 1), 6);
     due.is("5, 0, 0 by UNDER, 2", x.spread(1, true, 2), 6);
     due.is("5, 0, 0 by UNDER, 3", x.spread(1, true, 3), 5);
+    due.is("5, 0, 0 by TOP, 3", x.spread(1, false, 3), 8);
     x.turn(1);
     due.is("0, 0, 5 by UNDER, 2", x.spread(1, true, 2), 4);
     due.is("0, 0, 5 by TOP, 4", x.spread(1, false, 4), 5);
@@ -359,6 +361,36 @@ public final class WouldBeTest {
     x.drop(5);
     due.is("digest() of a busy house", x.digest(), digestByItsWords(x));
     due.is("digest() again", x.digest(), x.digest());
+  }
+
+  /** A house in which curve() and fits() answer otherwise a step beside what digest() asks. */
+  private static void digestAsksJustThese() {
+    Undermost x = new Undermost();
+    int[] lives = {12, 16, 36, 40, 60};
+    int[] uses = {3, 4, 9, 10, 12};
+    for (int i = 0; i < lives.length; i++) {
+      x.buy(0, lives[i]);
+      use(x, 0, 3, uses[i]);
+    }
+    double[] curve = {1.0, 0.8, 0.6, 0.6, 0.4, 0.2};
+    int[] at = {2, 3, 4, 8, 9, 10};
+    for (int i = 0; i < at.length; i++) {
+      due.is("about curve(" + at[i] + ")", (long) (1000.0 * x.curve(at[i]) + 0.5),
+          (long) (1000.0 * curve[i] + 0.5));
+    }
+    for (int kind = 0; kind < 3; kind++) {
+      for (int i = 0; i < 4; i++) {
+        x.book(kind, i < 2 ? 0 : 10 + kind, 3);
+      }
+    }
+    due.is("a gap of 5 days", x.fits(0, 5, 2), 15);
+    due.is("a gap of 6 days", x.fits(1, 5, 2), 16);
+    due.is("a gap of 7 days", x.fits(2, 5, 2), 5);
+    due.is("a gap of 6 days is for 4", x.fits(1, 4, 2), 5);
+    due.is("a gap of 7 days is not for 6", x.fits(2, 6, 2), 17);
+    due.is("for 1", x.fits(2, 5, 1), -1);
+    due.is("for 3", x.fits(2, 5, 3), 0);
+    due.is("digest() just beside", x.digest(), digestByItsWords(x));
   }
 
   private static long digestByItsWords(Undermost x) {
