@@ -9,8 +9,14 @@ final class Due {
   static final Class<? extends RuntimeException> ARGUMENT = IllegalArgumentException.class;
   static final Class<? extends RuntimeException> STATE = IllegalStateException.class;
 
+  private String sentence = "";
   private int wrong;
   private int checks;
+
+  /** Of which sentence of the document the checks are that follow: a wrong answer is told with it. */
+  void about(String words) {
+    sentence = "\"" + words + "\": ";
+  }
 
   /** An int, a long, a boolean, a double or a text, the same on both sides. */
   void is(String call, Object got, Object want) {
@@ -21,8 +27,13 @@ final class Due {
         : want.equals(got);
     if (!isSame) {
       wrong++;
-      System.out.println(call + " answered " + got + ", due is " + want);
+      System.out.println(sentence + call + " answered " + got + ", due is " + want);
     }
+  }
+
+  /** What lies just outside of least to most, and the least and the greatest int. */
+  static int[] outside(int least, int most) {
+    return new int[] {Integer.MIN_VALUE, least - 1, most + 1, Integer.MAX_VALUE};
   }
 
   /** That a call throws just this exception, and changes nothing that can be asked. */

@@ -12,6 +12,9 @@ final class Everything {
       for (int what = 0; what <= 10; what++) {
         text.append(' ').append(x.ofPiece(piece, what));
       }
+      for (int programme = 0; programme <= 3 && x.ofPiece(piece, 1) == 2; programme++) {
+        text.append(' ').append(x.washes(piece, programme));
+      }
     }
     for (int kind = 0; kind < 3; kind++) {
       addKind(text, x, kind);
@@ -23,7 +26,7 @@ final class Everything {
       }
     }
     text.append("\ncurve:");
-    for (int uses = 0; uses <= 20; uses++) {
+    for (int uses = 0; uses <= 200; uses += uses < 20 ? 1 : 45) {
       text.append(' ').append(x.curve(uses));
     }
     return text.append("\nsound ").append(x.isSound()).append(' ').append(x.digest()).toString();
@@ -43,7 +46,7 @@ final class Everything {
       text.append(' ').append(x.spread(kind, false, rounds));
     }
     for (int needed = 1; needed <= 12; needed++) {
-      text.append(' ').append(x.fits(kind, 3, needed));
+      text.append(' ').append(x.fits(kind, 3, needed)).append(' ').append(x.fits(kind, 20, needed));
     }
   }
 }
