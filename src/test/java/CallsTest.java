@@ -1,6 +1,4 @@
 import java.math.BigInteger;
-import java.util.ArrayList;
-import java.util.List;
 
 /** All 512 calls of an object, calls that ask, and the checksum that wraps around. */
 public final class CallsTest {
@@ -116,50 +114,8 @@ public final class CallsTest {
     due.is("all that can be asked", Everything.of(asked), Everything.of(calm));
   }
 
-  /** What digest() takes up, in its order. */
-  private static List<Long> values(Undermost x) {
-    List<Long> values = new ArrayList<>();
-    for (int what = 0; what <= 10; what++) {
-      values.add((long) x.store(what));
-    }
-    for (int piece = 0; piece < x.store(0); piece++) {
-      for (int what = 0; what <= 10; what++) {
-        values.add((long) x.ofPiece(piece, what));
-      }
-    }
-    for (int kind = 0; kind <= 2; kind++) {
-      for (int what = 0; what <= 9; what++) {
-        values.add((long) x.ofKind(kind, what));
-      }
-      for (int house = 0; house <= 2; house++) {
-        values.add((long) x.at(house, kind));
-      }
-      values.add((long) x.spread(kind, true, 7));
-      values.add((long) x.spread(kind, false, 7));
-      values.add((long) x.fits(kind, 5, 2));
-    }
-    for (int booking = 0; booking < x.store(8); booking++) {
-      for (int what = 0; what <= 5; what++) {
-        values.add((long) x.ofBooking(booking, what));
-      }
-    }
-    values.add((long) (4096.0 * x.curve(3)));
-    values.add((long) (4096.0 * x.curve(9)));
-    values.add(x.isSound() ? 1L : 0L);
-    return values;
-  }
-
-  /** The number as it would be without an end, of which a long keeps the lowest 64 bits. */
-  private static BigInteger unwrapped(Undermost x) {
-    BigInteger d = BigInteger.valueOf(8009);
-    for (long v : values(x)) {
-      d = d.multiply(BigInteger.valueOf(31)).add(BigInteger.valueOf(v));
-    }
-    return d;
-  }
-
   private static void isDigest(Undermost x) {
-    BigInteger d = unwrapped(x);
+    BigInteger d = Checksum.unwrapped(x);
     due.is("it is more than 64 bits can hold", d.bitLength() > 64, true);
     due.is("digest()", x.digest(), d.longValue());
   }
@@ -184,20 +140,20 @@ public final class CallsTest {
   private static void digestOfNone() {
     due.about("Computes a checksum. A number d starts with 8009");
     Undermost x = new Undermost();
-    due.is("what a new house takes up", values(x).size(), 11 + 3 * 16 + 3);
+    due.is("what a new house takes up", Checksum.values(x).size(), 11 + 3 * 16 + 3);
     isDigest(x);
     x.buy(0, 10);
-    due.is("and with a PIECE", values(x).size(), 2 * 11 + 3 * 16 + 3);
+    due.is("and with a PIECE", Checksum.values(x).size(), 2 * 11 + 3 * 16 + 3);
     isDigest(x);
     x.book(0, 0, 1);
-    due.is("and with a BOOKING", values(x).size(), 2 * 11 + 3 * 16 + 6 + 3);
+    due.is("and with a BOOKING", Checksum.values(x).size(), 2 * 11 + 3 * 16 + 6 + 3);
     isDigest(x);
   }
 
   private static void digestOfTheFullest() {
     due.about("PIECE by PIECE .. BOOKING by BOOKING");
     Undermost x = Houses.full();
-    due.is("what it takes up", values(x).size(), 11 + 16 * 11 + 3 * 16 + 12 * 6 + 3);
+    due.is("what it takes up", Checksum.values(x).size(), 11 + 16 * 11 + 3 * 16 + 12 * 6 + 3);
     isDigest(x);
     due.refuses(x, "a 17th PIECE", Due.STATE, () -> x.buy(0, 10));
     due.refuses(x, "a 13th BOOKING", Due.STATE, () -> x.book(0, 0, 1));

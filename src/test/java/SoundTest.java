@@ -84,6 +84,7 @@ public final class SoundTest {
 
   private static void isUnsound(Undermost x, String why) {
     due.is(why, x.isSound(), false);
+    due.is(why + ": digest(), with 0 at its end", x.digest(), Checksum.unwrapped(x).longValue());
   }
 
   private static void number(int piece, String field, int value)

@@ -394,33 +394,6 @@ public final class WouldBeTest {
   }
 
   private static long digestByItsWords(Undermost x) {
-    long d = 8009;
-    for (int what = 0; what <= 10; what++) {
-      d = d * 31 + x.store(what);
-    }
-    for (int piece = 0; piece < x.store(0); piece++) {
-      for (int what = 0; what <= 10; what++) {
-        d = d * 31 + x.ofPiece(piece, what);
-      }
-    }
-    for (int kind = 0; kind <= 2; kind++) {
-      for (int what = 0; what <= 9; what++) {
-        d = d * 31 + x.ofKind(kind, what);
-      }
-      for (int house = 0; house <= 2; house++) {
-        d = d * 31 + x.at(house, kind);
-      }
-      d = d * 31 + x.spread(kind, true, 7);
-      d = d * 31 + x.spread(kind, false, 7);
-      d = d * 31 + x.fits(kind, 5, 2);
-    }
-    for (int booking = 0; booking < x.store(8); booking++) {
-      for (int what = 0; what <= 5; what++) {
-        d = d * 31 + x.ofBooking(booking, what);
-      }
-    }
-    d = d * 31 + (long) (4096 * x.curve(3));
-    d = d * 31 + (long) (4096 * x.curve(9));
-    return d * 31 + (x.isSound() ? 1 : 0);
+    return Checksum.unwrapped(x).longValue();
   }
 }
