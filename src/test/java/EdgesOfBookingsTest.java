@@ -43,6 +43,7 @@ public final class EdgesOfBookingsTest {
     seatsOfItsKind();
     seatsAreGivenAnew();
     seatOfADroppedOne();
+    droppedBehindOthers();
     fitsOnTheFirstDay();
     fitsOnTheLastDay();
     fitsInAGap();
@@ -410,6 +411,24 @@ public final class EdgesOfBookingsTest {
     x.drop(1);
     x.drop(2);
     due.is("SEATS", x.ofKind(0, 7), 0);
+  }
+
+  /** Whichever is dropped, by its place among them: it alone holds no seat and is busy no more. */
+  private static void droppedBehindOthers() {
+    due.about("BOOKING by BOOKING of it that is not DROPPED");
+    String[] left = {"-1 0 1 2", "0 -1 1 2", "0 1 -1 2", "0 1 2 -1"};
+    for (int dropped = 0; dropped < left.length; dropped++) {
+      Undermost x = new Undermost();
+      book(x, 0, 10, 5, 11, 5, 12, 5, 13, 5);
+      due.is("drop(" + dropped + ") of four in a row", x.drop(dropped), 3);
+      due.is("seats without " + dropped, seats(x), left[dropped]);
+      due.is("SEATS without " + dropped, x.ofKind(0, 7), 3);
+      due.is("WORST without " + dropped, x.ofKind(0, 6), dropped < 3 ? 13 : 12);
+      due.is("isSound() without " + dropped, x.isSound(), true);
+      book(x, 0, 12, 1);
+      due.is("seats with one more", seats(x), dropped == 0 ? "-1 0 1 3 2"
+          : dropped == 1 ? "0 -1 1 3 2" : dropped == 2 ? "0 1 -1 3 2" : "0 1 2 -1 3");
+    }
   }
 
   private static void fitsOnTheFirstDay() {

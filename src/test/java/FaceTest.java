@@ -1,7 +1,10 @@
+import java.io.IOException;
 import java.lang.reflect.Constructor;
 import java.lang.reflect.Field;
 import java.lang.reflect.Method;
 import java.lang.reflect.Modifier;
+import java.nio.file.Files;
+import java.nio.file.Path;
 import java.util.Set;
 import java.util.TreeSet;
 
@@ -13,12 +16,29 @@ public final class FaceTest {
 
   private static final Due due = new Due();
 
-  public static void main(String[] args) {
+  public static void main(String[] args) throws IOException {
+    faceIsAsTheDocumentWritesIt();
     faceIsJustTheDocuments();
     methodsAreAsWritten();
     insideIsPrivate();
     sizesAreSmall();
     due.end();
+  }
+
+  /** The code block under "The public face", line by line, down to the names of parameters. */
+  private static void faceIsAsTheDocumentWritesIt() throws IOException {
+    String doc = Files.readString(Path.of("../shared/DOC.md"));
+    String source = Files.readString(Path.of("src/main/java/Undermost.java")).replaceAll("\\s+", " ");
+    String block = doc.substring(doc.indexOf("```java") + 7);
+    int lines = 0;
+    for (String line : block.substring(0, block.indexOf("```")).trim().split("\n")) {
+      if (!line.equals("}")) {
+        lines++;
+        String want = line.trim().replaceAll("( \\{|;)$", " {");
+        due.is("there is: " + want, source.contains(want), true);
+      }
+    }
+    due.is("the class, its constructor and 24 methods", lines, 26);
   }
 
   private static void faceIsJustTheDocuments() {
